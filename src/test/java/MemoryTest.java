@@ -71,6 +71,8 @@ public final class MemoryTest {
         Check.fails("2 dict dup /a 1 put dup /b 2 put dup /c 3 put", Check.FULL, "dict1 dict1 /c 3");
         Check.fresh("2 dict dup /a 1 put dup /b 2 put dup /a 3 put dup /a get exch /b get", "3 2");
         Check.fresh("currentdict /a 5 put a", "5");
+        Check.fresh("/a 5 def currentdict /a get currentdict /a known /a load", "5 true 5");
+        Check.fresh("3 dict dup /a 5 put dup /a get exch /a known", "5 true");
         Check.fresh("1 dict 10 dict", "dict1 dict2");
         Check.fails("0 dict", Check.RANGE, "0");
         Check.fails("11 dict", Check.RANGE, "11");
@@ -110,6 +112,24 @@ public final class MemoryTest {
         }
         c.run("/u 20 def", Check.FULL, "/u 20").ok("pop pop currentdict length", "20");
         c.ok("pop a t add /a 50 def a", "19 50");
+        allFull();
+    }
+
+    /** Every DICT filled up at once: no ENTRY of one is another's. */
+    private static void allFull() {
+        Check c = new Check();
+        for (int i = 0; i < 20; i++) {
+            c.ok("/" + (char) ('a' + i) + " " + i + " def", "");
+        }
+        for (int d = 1; d <= 6; d++) {
+            c.ok("10 dict begin", "");
+            for (int i = 0; i < 10; i++) {
+                c.ok("/" + (char) ('a' + i) + " " + (100 * d + i) + " def", "");
+            }
+            c.run("/k 1 def", Check.FULL, "/k 1").ok("clear currentdict end", "dict" + d).ok("pop", "");
+        }
+        c.ok("0 1 19 {} for clear a j k t", "0 9 10 19").run("clear 1 dict", Check.LIMIT, "1");
+        c.ok("clear currentdict length", "20").used(1, 6);
     }
 
     private static void names() {
@@ -174,6 +194,11 @@ public final class MemoryTest {
         Check.fails("/s save def {s restore} exec", Check.INVALID, "save1");
         Check.fails("/r {restore} def save {r} exec", Check.INVALID, "save1");
         Check.fresh("/r {restore} def save r", "").used(3, 0);
+        Check.fresh("save [1] {pop} forall restore", "").used(0, 0);
+        Check.fresh("save {7} exec pop {} stopped pop restore", "").used(0, 0);
+        Check.fresh("save 2 {} repeat 1 1 2 {pop} for {exit} loop restore", "").used(0, 0);
+        Check.fresh("save {{stop} exec} stopped pop restore save [1] {stop} stopped clear", "").used(3, 1);
+        Check.fresh("/s save def [1 2] {stop} stopped {forall} stopped clear {[1] {x} forall} stopped clear s restore", "").used(0, 0);
         Check.fails("/r {exit} def {pop restore} save [1] 2 index forall", Check.INVALID, "{2} save1");
         Check.fails("{pop restore} save exch [1] exch forall", Check.INVALID, "save1");
         Check.fresh("[1] {pop restore} save 3 1 roll forall", "").used(3, 0).used(0, 3);

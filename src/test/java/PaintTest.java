@@ -67,6 +67,8 @@ public final class PaintTest {
         Check c = new Check();
         c.ok(SQUARE + "fill 0 setgray 2 2 moveto 3 2 lineto 3 3 lineto 2 3 lineto fill", "").pixel(2, 2, 0).pixel(3, 3, 15);
         Check.same("page without the one painted 0", 15, c.scribe.page());
+        c.ok("0.05 setgray " + SQUARE + "fill", "").pixel(2, 2, 1);
+        Check.same("page of LEVEL 1", 16, c.scribe.page());
         Check.fails("1.0001 setgray", Check.RANGE, "1.0001");
         Check.fails("-0.0001 setgray", Check.RANGE, "-1.0E-4");
         Check.fails("2 setgray", Check.RANGE, "2");
@@ -119,6 +121,9 @@ public final class PaintTest {
     private static void edges() {
         shows("1 0.5 moveto 5 0.5 lineto 5 2.5 lineto 1 2.5 lineto fill", ".ffff./.ffff./....../....../....../......");
         shows("0.5 1 moveto 2.5 1 lineto 2.5 3 lineto 0.5 3 lineto fill", "....../ff..../ff..../....../....../......");
+        shows("0.4999 0 moveto 0.5001 0 lineto 0.5001 1 lineto 0.4999 1 lineto fill", "f...../....../....../....../....../......");
+        shows("0.5 0 moveto 0.5001 0 lineto 0.5001 1 lineto 0.5 1 lineto fill", "f...../....../....../....../....../......");
+        shows("0.4999 0 moveto 0.5 0 lineto 0.5 1 lineto 0.4999 1 lineto fill", "....../....../....../....../....../......");
         shows("2 2 moveto fill", "....../....../....../....../....../......");
         shows("2 2 moveto 4 4 lineto fill", "....../....../....../....../....../......");
         shows("fill", "....../....../....../....../....../......");

@@ -17,6 +17,7 @@ public final class RunsTest {
 
     private static void doing() {
         Check.fresh("{1 2 add} exec", "3");
+        Check.fresh("{1 2.5 /a b} pop {1 2.5 /a [3.5 true]} exec", "1 2.5 /a [2]");
         Check.fresh("5 exec 1.5 exec /a exec [1] exec mark exec", "5 1.5 /a [1] mark");
         Check.fresh("/x 5 def /x cvx exec", "5");
         Check.fresh("1 2 /add cvx exec", "3");
@@ -70,7 +71,10 @@ public final class RunsTest {
         Check.fails("{exit} exec", Check.NOLOOP, "");
         Check.fails("2 {} repeat exit", Check.NOLOOP, "");
         Check.fails("{exit} loop exit", Check.NOLOOP, "");
-        Check.fresh("{{exit} stopped exit} loop", "true");
+        Check.fresh("{exit} stopped", "true").fault(Check.NOLOOP);
+        Check.fresh("{{exit} stopped exit} loop", "true").fault(Check.NOLOOP);
+        Check.fresh("{{exit} exec} stopped 2 {{exit} loop 1} repeat", "true 1 1").fault(Check.NOLOOP);
+        Check.fresh("2 {{{exit 6} stopped exit} loop} repeat", "true true").fault(Check.NOLOOP);
         Check.fresh("{{{exit} loop 5} stopped exit} loop", "5 false");
         Check.fresh("{{1} stopped exit} loop", "1 false");
         Check.fresh("{{stop} stopped exit} loop {exit} stopped", "true true");

@@ -184,6 +184,7 @@ public final class StackOperatorsTest {
 
     private static void cutting() {
         Check.fresh("2.5 floor -2.5 floor 3.0 floor -3.0 floor 7 floor", "2.0 -3.0 3.0 -3.0 7");
+        Check.fresh("2.9999 floor -2.0001 floor 2.0001 floor", "2.0 -3.0 2.0");
         Check.fresh("2.5 round -2.5 round 2.4999 round -2.6 round 7 round", "3.0 -2.0 2.0 -3.0 7");
         Check.fresh("0.5 round -0.5 round 0.4 round", "1.0 0.0 0.0");
         Check.fresh("2.9 cvi -2.9 cvi 7 cvi", "2 -2 7");
