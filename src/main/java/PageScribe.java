@@ -640,40 +640,34 @@ public final class PageScribe {
             gathered.size = 0;
             for (int i = 0; i < MOST_TEXT && findToken(); i++) {
                 char c = charAt(place);
-                int end = 0;
                 if (c == '{') {
-                    end = open < MOST_BRACES ? 0 : NESTED;
-                    if (end == 0) {
-                        begins[open] = gathered.size;
-                        open++;
-                        place++;
+                    if (open >= MOST_BRACES) {
+                        return NESTED;
                     }
-                } else if (c == '}') {
-                    open--;
+                    begins[open] = gathered.size;
+                    open++;
                     place++;
-                    end = open >= 0 ? makeProcedure(begins[open]) : SYNTAX;
-                    if (end == 0 && open == 0) {
-                        return 0;
-                    }
                 } else {
-                    end = readPlain();
-                }
-                if (end != 0) {
-                    return end;
-                }
-                if (c != '{') {
+                    open -= c == '}' ? 1 : 0;
+                    int end = c == '}' ? makeProcedure(open) : readPlain();
+                    if (end != 0 || open == 0) {
+                        return end;
+                    }
                     gathered.push(tokenKind, tokenNumber, tokenReal);
                 }
             }
             return SYNTAX;
         }
 
-        private int makeProcedure(int begin) {
+        /** Makes the PROCEDURE whose } stands here; so many { are open round it. */
+        private int makeProcedure(int open) {
+            int begin = open >= 0 && open < MOST_BRACES ? begins[open] : 0;
             int array = store.newArray(gathered, begin, gathered.size - begin);
             if (array < 0) {
                 return LIMIT;
             }
             gathered.size = begin;
+            place++;
             giveToken(LIVE_ARRAY, array, 0.0);
             return 0;
         }

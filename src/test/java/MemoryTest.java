@@ -115,20 +115,23 @@ public final class MemoryTest {
         allFull();
     }
 
+    private static String entries(int first, int n, int value) {
+        StringBuilder text = new StringBuilder();
+        for (int i = first; i < first + n; i++) {
+            text.append('/').append((char) ('a' + i)).append(' ').append(value + i).append(" def ");
+        }
+        return text.toString();
+    }
+
     /** Every DICT filled up at once: no ENTRY of one is another's. */
     private static void allFull() {
         Check c = new Check();
-        for (int i = 0; i < 20; i++) {
-            c.ok("/" + (char) ('a' + i) + " " + i + " def", "");
-        }
+        c.ok(entries(0, 10, 0), "").ok(entries(10, 10, 0), "");
         for (int d = 1; d <= 6; d++) {
-            c.ok("10 dict begin", "");
-            for (int i = 0; i < 10; i++) {
-                c.ok("/" + (char) ('a' + i) + " " + (100 * d + i) + " def", "");
-            }
+            c.ok("10 dict begin " + entries(0, 5, 100 * d), "").ok(entries(5, 5, 100 * d), "");
             c.run("/k 1 def", Check.FULL, "/k 1").ok("clear currentdict end", "dict" + d).ok("pop", "");
         }
-        c.ok("0 1 19 {} for clear a j k t", "0 9 10 19").run("clear 1 dict", Check.LIMIT, "1");
+        c.ok("a j k t", "0 9 10 19").run("clear 1 dict", Check.LIMIT, "1");
         c.ok("clear currentdict length", "20").used(1, 6);
     }
 

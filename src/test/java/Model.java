@@ -96,6 +96,9 @@ final class Model {
         }
     }
 
+    /** So many VALUES from the top are told letter by letter. */
+    static final int SPELLED = 3;
+
     final int columns;
     final int rows;
     final int[][] levels;
@@ -339,6 +342,21 @@ final class Model {
         }
     }
 
+    /** Whether the STACK has what that operator takes. */
+    boolean couldDo(String word) {
+        for (String way : OPERATORS.get(word)) {
+            int n = way.length();
+            boolean all = stack.size() >= n;
+            for (int i = 0; i < n && all; i++) {
+                all = fits(stack.get(stack.size() - n + i), way.charAt(i));
+            }
+            if (all) {
+                return true;
+            }
+        }
+        return false;
+    }
+
     private void operator(String word) {
         String[] ways = OPERATORS.get(word);
         if (ways == null) {
@@ -350,15 +368,7 @@ final class Model {
         }
         List<Value> before = new ArrayList<>(stack);
         Value[] v = stack.subList(stack.size() - n, stack.size()).toArray(new Value[0]);
-        boolean right = false;
-        for (String way : ways) {
-            boolean all = true;
-            for (int i = 0; i < n; i++) {
-                all &= fits(v[i], way.charAt(i));
-            }
-            right |= all;
-        }
-        if (!right) {
+        if (!couldDo(word)) {
             throw new Failure(3);
         }
         for (int i = 0; i < n; i++) {
@@ -875,12 +885,17 @@ final class Model {
 
     // ---- what is answered
 
-    /** All that can be asked of the object, in one text. */
+    int painted() {
+        return (int) Arrays.stream(levels).flatMapToInt(Arrays::stream).filter(level -> level > 0).count();
+    }
+
+    /** All that can be asked of the object but the pixels, in one text. */
     String told() {
         StringBuilder all = new StringBuilder();
         for (int k = 0; k < stack.size(); k++) {
             Value v = stack.get(stack.size() - 1 - k);
-            all.append(v.kind + (v.live ? 8 : 0)).append(':').append(bodyOf(v)).append(' ');
+            boolean spelled = v.kind != 3 || k < SPELLED;
+            all.append(v.kind + (v.live ? 8 : 0)).append(':').append(spelled ? bodyOf(v) : "" + ((String) v.body).length()).append(' ');
         }
         all.append('|').append(cells.size()).append(' ').append(dicts.size() - 1).append(' ').append(scopes.size()).append(' ');
         all.append(open.size()).append(' ').append(points()).append(' ').append(known.size()).append(' ').append(text.length());

@@ -1,6 +1,7 @@
-/** Many made-up texts, done by PageScribe and by the Model; every answer has to be the same after each. */
+/** Many made-up texts, done by PageScribe and by the Model; their answers have to be the same. */
 public final class ModelTest {
-    private static final int OBJECTS = 4000, RUNS = 60;
+    /** Within the 512 calls that an object is promised for. */
+    private static final int OBJECTS = 12000, MOST_CALLS = 512, CALLS_TO_TELL = 290;
 
     private static final String[] WORDS = Model.TABLE.replaceAll("( [a-z]+)+", "").split(",");
     private static final String[] NAMES = {"a", "b", "c", "add", "f", "longname", "x", "y", "z", "pop"};
@@ -22,8 +23,11 @@ public final class ModelTest {
         this.seed = seed;
     }
 
+    /** For a longer search by hand: the number of the first object, and how many there are to be. */
     public static void main(String[] args) {
-        for (int i = 0; i < OBJECTS; i++) {
+        int first = args.length > 0 ? Integer.parseInt(args[0]) : 0;
+        int objects = args.length > 1 ? Integer.parseInt(args[1]) : OBJECTS;
+        for (int i = first; i < first + objects; i++) {
             new ModelTest(i * 7919L + 17).compare(i);
         }
         Check.finish();
@@ -70,57 +74,84 @@ public final class ModelTest {
         return text.toString();
     }
 
+    /** A word of an operator that finds on the Model's STACK what it takes, if a few tries find one. */
+    private String fitting(Model model) {
+        String word = one(WORDS);
+        for (int i = 0; i < 12 && !model.couldDo(word); i++) {
+            word = one(WORDS);
+        }
+        return word;
+    }
+
+    private String textFor(Model model) {
+        String start = upTo(9) == 0 ? "clear " : upTo(2) == 0 ? fitting(model) + " " : "";
+        String text = start + several(0, upTo(3) == 0 ? 12 : 3);
+        return text.substring(0, Math.min(120, text.length()));
+    }
+
     private void compare(int number) {
         int columns = upTo(30) - 2;
         int rows = upTo(20) - 2;
         PageScribe scribe = new PageScribe(columns, rows);
         Model model = new Model(columns, rows);
         StringBuilder story = new StringBuilder("object " + number);
-        for (int run = 0; run < RUNS; run++) {
-            feedBoth(scribe, model);
-            String text = upTo(6) == 0 ? "clear " + several(0, 12) : several(0, 12);
-            text = text.substring(0, Math.min(120, text.length()));
+        int calls = 0;
+        while (calls < MOST_CALLS - CALLS_TO_TELL) {
+            calls += feedBoth(scribe, model);
+            String text = textFor(model);
             int fuel = upTo(3) == 0 ? 1 + upTo(40) : 1 + upTo(500);
             story.append('\n').append(fuel).append(": ").append(text);
             Check.writeAll(scribe, text);
             model.text = text;
-            int due = model.run(fuel);
-            int got = scribe.run(fuel);
-            String told = told(scribe);
-            if (due != got || !model.told().equals(told) || !pageAlike(scribe, model)) {
-                Check.same(story.toString(), due + "; " + model.told(), got + "; " + told);
+            String due = model.run(fuel) + " steps " + model.steps + " fault " + model.fault + " depth " + model.stack.size();
+            String got = scribe.run(fuel) + " steps " + scribe.steps() + " fault " + scribe.fault() + " depth " + scribe.depth();
+            calls += 4 + (text.length() + 7) / 8;
+            if (!due.equals(got)) {
+                Check.same(story.toString(), due, got);
                 return;
             }
         }
-        Check.same("object " + number, true, true);
+        Check.same(story.toString(), model.told(), told(scribe));
+        comparePages(story.toString(), scribe, model);
     }
 
-    private void feedBoth(PageScribe scribe, Model model) {
-        if (upTo(10) == 0) {
-            double v = (upTo(2000001) - 1000000) * (upTo(2) == 0 ? 1e6 : 0.37);
-            boolean fed = scribe.feed(v);
-            Check.same("feed", model.stack.size() < 40, fed);
-            if (fed) {
-                model.stack.add(new Model.Value(1, false, v));
-            }
+    private int feedBoth(PageScribe scribe, Model model) {
+        if (upTo(10) > 0) {
+            return 0;
         }
-    }
-
-    private static boolean pageAlike(PageScribe scribe, Model model) {
-        boolean alike = true;
-        for (int column = 0; column < model.columns; column++) {
-            for (int row = 0; row < model.rows; row++) {
-                alike &= scribe.pixel(column, row) == model.levels[column][row];
-            }
+        double v = (upTo(2000001) - 1000000) * (upTo(2) == 0 ? 1e6 : 0.37);
+        boolean fed = scribe.feed(v);
+        Check.same("feed", model.stack.size() < 40, fed);
+        if (fed) {
+            model.stack.add(new Model.Value(1, false, v));
         }
-        return alike && scribe.pixel(model.columns, 0) == -1 && scribe.pixel(0, model.rows) == -1;
+        return 1;
     }
 
+    private void comparePages(String story, PageScribe scribe, Model model) {
+        for (int i = 0; i < 50; i++) {
+            int column = upTo(model.columns + 2) - 1;
+            int row = upTo(model.rows + 2) - 1;
+            boolean there = column >= 0 && column < model.columns && row >= 0 && row < model.rows;
+            Check.same(story + "\n" + column + ", " + row, there ? model.levels[column][row] : -1, scribe.pixel(column, row));
+        }
+        Check.same(story + "\npage", model.painted(), scribe.page());
+    }
+
+    /** What the Model tells in told(). */
     private static String told(PageScribe scribe) {
         StringBuilder all = new StringBuilder();
         for (int k = 0; k < scribe.depth(); k++) {
             int kind = scribe.kind(k);
-            all.append(kind).append(':').append(bodyOf(scribe, k, kind)).append(' ');
+            all.append(kind).append(':');
+            if (kind == 1) {
+                all.append(scribe.real(k) + 0.0);
+            } else if (kind == 3 || kind == 11) {
+                all.append(k < Model.SPELLED ? nameOf(scribe, k) : "" + scribe.number(k));
+            } else {
+                all.append(scribe.number(k));
+            }
+            all.append(' ');
         }
         for (int which = 0; which < 7; which++) {
             all.append(which == 0 ? '|' : ' ').append(scribe.used(which));
@@ -128,13 +159,7 @@ public final class ModelTest {
         return all.append('|').append(scribe.steps()).append(' ').append(scribe.fault()).toString();
     }
 
-    private static String bodyOf(PageScribe scribe, int k, int kind) {
-        if (kind == 1) {
-            return "" + (scribe.real(k) + 0.0);
-        }
-        if (kind != 3 && kind != 11) {
-            return "" + scribe.number(k);
-        }
+    private static String nameOf(PageScribe scribe, int k) {
         StringBuilder name = new StringBuilder();
         for (int i = 0; scribe.letter(k, i) >= 0; i++) {
             name.append((char) scribe.letter(k, i));

@@ -69,8 +69,10 @@ public final class NewObjectTest {
     private static void size(int columns, int rows, int dueColumns, int dueRows) {
         PageScribe scribe = new PageScribe(columns, rows);
         String what = "page of " + columns + " by " + rows;
-        for (int column = -1; column <= 26; column++) {
-            for (int row = -1; row <= 18; row++) {
+        int[] columnsTried = {-1, 0, 1, dueColumns - 1, dueColumns, dueColumns + 1, columns, 15, 16, 23, 24, 25};
+        int[] rowsTried = {-1, 0, 1, dueRows - 1, dueRows, dueRows + 1, rows, 11, 12, 15, 16, 17};
+        for (int column : columnsTried) {
+            for (int row : rowsTried) {
                 boolean there = column >= 0 && column < dueColumns && row >= 0 && row < dueRows;
                 Check.same(what + " at " + column + ", " + row, there ? 0 : -1, scribe.pixel(column, row));
             }
