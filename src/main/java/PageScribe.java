@@ -226,7 +226,7 @@ public final class PageScribe {
         }
     }
 
-    /** Places for VALUES, side by side, the first `size` of them in use. */
+    /** Places for VALUES, side by side; where they are pushed, the first `size` of them are in use. */
     private static class Row {
         final int[] kinds;
         final int[] numbers;
@@ -239,24 +239,20 @@ public final class PageScribe {
             reals = new double[room];
         }
 
-        final boolean has(int i) {
-            return i >= 0 && i < size && size <= kinds.length;
-        }
-
         final int kindAt(int i) {
-            return has(i) ? kinds[i] : KIND_INT;
+            return i >= 0 && i < kinds.length ? kinds[i] : KIND_INT;
         }
 
         final int numberAt(int i) {
-            return has(i) ? numbers[i] : 0;
+            return i >= 0 && i < numbers.length ? numbers[i] : 0;
         }
 
         final double realAt(int i) {
-            return has(i) ? reals[i] : 0.0;
+            return i >= 0 && i < reals.length ? reals[i] : 0.0;
         }
 
         final void put(int i, int kind, int number, double real) {
-            if (has(i)) {
+            if (i >= 0 && i < kinds.length) {
                 kinds[i] = kind;
                 numbers[i] = number;
                 reals[i] = real;
@@ -974,7 +970,6 @@ public final class PageScribe {
 
         Store() {
             rooms[0] = FIRST_ROOM;
-            values.size = ENTRIES;
         }
 
         void become(Store other) {
