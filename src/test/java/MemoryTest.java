@@ -85,7 +85,18 @@ public final class MemoryTest {
         for (int d = 1; d <= 6; d++) {
             c.ok((6 - d) + " index begin /d " + d + " def /e " + d + "0 def end", "dict1 dict2 dict3 dict4 dict5 dict6");
         }
-        c.ok("6 {/d get 6 1 roll} repeat", "1 2 3 4 5 6");
+        c.ok("begin d e end", "dict1 dict2 dict3 dict4 dict5 6 60").ok("pop pop begin d e end", "dict1 dict2 dict3 dict4 5 50");
+        c.ok("pop pop begin d e end", "dict1 dict2 dict3 4 40").ok("pop pop begin d e end", "dict1 dict2 3 30");
+        c.ok("pop pop begin d e end", "dict1 2 20").ok("pop pop begin d e end", "1 10");
+        twoDicts();
+    }
+
+    /** Two DICTS side by side, both filled. */
+    private static void twoDicts() {
+        Check c = Check.fresh("3 dict 3 dict", "dict1 dict2");
+        c.ok("1 index begin /a 1 def /b 2 def /c 3 def end", "dict1 dict2");
+        c.ok("dup begin /d 4 def /b 5 def /c 6 def end", "dict1 dict2");
+        c.ok("begin d b c end 3 index begin a b c", "dict1 4 5 6 1 2 3").run("d", Check.UNDEFINED, "dict1 4 5 6 1 2 3");
     }
 
     private static void dictStack() {

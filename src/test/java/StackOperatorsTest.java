@@ -117,6 +117,8 @@ public final class StackOperatorsTest {
 
     private static void marks() {
         Check.fresh("1 mark 2 3 cleartomark", "1");
+        Check.fresh("1 mark cleartomark", "1");
+        Check.fails("cleartomark", Check.UNMATCHED, "");
         Check.fresh("mark 1 [ 2 cleartomark", "mark 1");
         Check.fails("1 2 cleartomark", Check.UNMATCHED, "1 2");
         Check.fresh("mark mark eq", "true");

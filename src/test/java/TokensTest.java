@@ -8,6 +8,7 @@ public final class TokensTest {
         procedureFailures();
         knownWords();
         syntax();
+        wholeText();
         textAfterwards();
         Check.finish();
     }
@@ -126,6 +127,14 @@ public final class TokensTest {
         Check.fresh("   ", "").steps(0);
         Check.fresh("", "").steps(0);
         Check.fresh("  1   2  ", "1 2");
+    }
+
+    private static void wholeText() {
+        Check c = Check.fresh("{[} 0 get {} def", "");
+        c.ok("[".repeat(120), "").steps(120);
+        c.ok(" ".repeat(112) + "/wholeab", "/wholeab").used(5, 1);
+        c.ok("clear " + " ".repeat(105) + "/wholeabc", "/wholeabc").used(5, 2);
+        c.run("clear " + " ".repeat(106) + "wholeabc", Check.UNDEFINED, "").used(5, 2);
     }
 
     private static void textAfterwards() {
