@@ -10,6 +10,7 @@ public final class MemoryEdgesTest {
         rooms();
         entries();
         mostDicts();
+        allFull();
         dictStack();
         lookingUp();
         saves();
@@ -144,6 +145,7 @@ public final class MemoryEdgesTest {
         Check.fresh("1 dict dup {a} 0 get known exch dup /a 1 put dup {a} 0 get known exch /aa known", "false true false");
         Check.fresh("{a} 0 get 5 def a /a load {a} 0 get load", "5 5 5");
         Check.fresh("1 dict dup /a /a put /a get", "/a").used(1, 1);
+        Check.fresh("/d 2 dict def d /a 5 put currentdict /a 6 put d /a get a d length currentdict length", "5 6 1 2");
     }
 
     /** "at most 6 more are there (a new one has the least number that is free)"; "LIMIT: 6 are there". */
@@ -156,6 +158,29 @@ public final class MemoryEdgesTest {
         c = Check.fresh("1 dict pop save 4 {1 dict pop} repeat", "save1").used(1, 5);
         c.ok("1 dict pop", "save1").run("1 dict", Check.LIMIT, "save1 1").used(1, 6).ok("pop restore", "").used(1, 1);
         c.ok("5 {1 dict} repeat", "dict2 dict3 dict4 dict5 dict6").used(1, 6).run("1 dict", Check.LIMIT, "dict2 dict3 dict4 dict5 dict6 1");
+    }
+
+    /** All DICTS there, each with no ROOM left: every ENTRY of every one is its own. */
+    private static void allFull() {
+        Check c = new Check().ok("/z 6 array def 0 1 5 {z exch 10 dict put} for", "");
+        for (int i = 0; i < 10; i++) {
+            String name = "/" + (char) ('a' + i);
+            c.ok("0 1 5 {dup z exch get exch 10 mul " + i + " add " + name + " exch put} for " + name + " " + (100 + i) + " def", "");
+        }
+        for (int i = 0; i < 10; i++) {
+            String name = "/" + (char) ('a' + i);
+            c.ok("z {" + name + " get} forall " + name + " load", fromTens(i) + " " + (100 + i)).ok("clear", "");
+        }
+        c.run("z 0 get /k 1 put", Check.FULL, "dict1 /k 1").run("clear z 5 get /k 1 put", Check.FULL, "dict6 /k 1");
+        c.ok("clear z {length} forall currentdict length", "10 10 10 10 10 10 11");
+    }
+
+    private static String fromTens(int i) {
+        StringBuilder told = new StringBuilder("" + i);
+        for (int d = 1; d < 6; d++) {
+            told.append(' ').append(10 * d + i);
+        }
+        return told.toString();
     }
 
     /** "The DICT STACK has DICT 0 at its bottom, always, and at most 6 DICTS"; "begin .. (LIMIT)"; "end .. (UNMATCHED ..)". */
@@ -206,7 +231,7 @@ public final class MemoryEdgesTest {
         Twins.refuses("save", Check.LIMIT, "save save save");
         Twins.refuses("save", Check.LIMIT, "3 {save pop} repeat");
         Check many = new Check();
-        for (int n = 1; n <= 60; n++) {
+        for (int n = 1; n <= 30; n++) {
             many.ok("save", "save" + n).used(3, 1).ok("restore", "").used(3, 0);
         }
     }
@@ -230,7 +255,7 @@ public final class MemoryEdgesTest {
         String[] fine = {"[1 2 3] save", "{1 2 3} save", "[1 2 3] save 1 index 2 1 getinterval exch", "[1 2 3] save 9 array pop",
             "[1 2 3] save [] exch", "[1 2 3] save {} exch", "[1 2 3] save [4] 0 0 getinterval exch", "[1 2 3] save [4] 1 0 getinterval exch",
             "1 dict save", "save save 1 dict pop", "save dup", "1 dict save 1 index exch", "save 5 exch /a exch mark exch 1.5 exch true exch",
-            "save [1] length exch", "[0] dup save exch 0 [5] put"};
+            "save [1] length exch", "6 {1 dict} repeat save", "6 {1 dict} repeat save 9 array pop", "save 160 array pop", "[0] dup save exch 0 [5] put"};
         for (String text : fine) {
             Check c = new Check();
             c.text(text).scribe.run(500);
@@ -277,6 +302,9 @@ public final class MemoryEdgesTest {
         Check.fails("/p {s restore} def /s save def {p} exec", Check.INVALID, "save1");
         Check.fails("{pop s restore} /s save def [7] exch forall", Check.INVALID, "save1");
         Check.fresh("{pop restore} [7] save 3 1 roll exch forall", "").used(3, 0).used(0, 3);
+        Check.fails("/p {pop restore} def /a [7] def save {a /p load forall} exec", Check.INVALID, "save1").used(3, 1);
+        Check.fails("/p {restore} def save {p} exec", Check.INVALID, "save1");
+        Check.fails("/p {restore} def save [7] {pop p} forall", Check.INVALID, "save1");
         Check.fresh("{restore} save exch exec", "").used(3, 0);
         Check.fresh("{restore} save exch stopped", "false").used(3, 0);
         Check.fresh("/p {restore} def save p", "").used(3, 0);
@@ -311,6 +339,8 @@ public final class MemoryEdgesTest {
         Check.fresh("save 6 {1 dict pop} repeat restore 6 {1 dict} repeat", "dict1 dict2 dict3 dict4 dict5 dict6");
         Check.fresh("save 20 array dup 0 5 put pop restore 20 array 0 get", "0");
         Check.fresh("save 2 dict /a 5 put restore 2 dict dup length exch /a known", "0 false");
+        c = Check.fresh("/a [1.5 2.5] def /b 3.5 def save a 0 4.5 put a 1 mark put /b 5.5 def a 0 get b", "save1 4.5 5.5");
+        c.ok("pop pop restore a aload pop b", "1.5 2.5 3.5");
         Check.fresh("{1 save} pop /p {q 5} def /q {save /p load 1 9 put restore} def p", "5");
     }
 

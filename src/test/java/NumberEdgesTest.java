@@ -129,7 +129,9 @@ public final class NumberEdgesTest {
         c.ok("count", upTo(39) + " 39").run("count", Check.OVERFLOW, upTo(39) + " 39").ok("pop 40", upTo(40));
         c.run("41", Check.OVERFLOW, upTo(40));
         Check.same("depth", 40, c.scribe.depth());
-        c.ok("exch", upTo(38) + " 40 39").ok("clear count", "0");
+        c.ok("clear count", "0");
+        c = new Check().ok(Check.times(36, "7"), Check.times(36, "7"));
+        c.ok("4 5 6 8", Check.times(36, "7") + " 4 5 6 8").ok("exch", Check.times(36, "7") + " 4 5 8 6");
     }
 
     /** "of two INTS exact, an INT if it is one of 32 bits, else the REAL that is the double of it". */

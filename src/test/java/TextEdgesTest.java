@@ -230,6 +230,8 @@ public final class TextEdgesTest {
         Check.fails("159 array pop {1 2 abc} def", Check.LIMIT, "").used(0, 159).used(5, 1);
         Check c = Check.fails("5 {{1 2} 3", Check.SYNTAX, "5").used(0, 2);
         c.ok("{4}", "5 {1}").used(0, 3).ok("aload pop", "5 4");
+        Check.fresh("{" + "[".repeat(115) + "{}}", "{116}").used(0, 116);
+        Check.fresh("{" + "[".repeat(112) + "{{[}}}", "{113}").used(0, 115);
         Check.fresh("{{1 2} 3} 0 get aload pop {{1 2} 3} 1 get", "1 2 3").used(0, 8);
     }
 
@@ -245,7 +247,11 @@ public final class TextEdgesTest {
         }
         Check c = new Check();
         c.run("{" + "1".repeat(9) + " ".repeat(110), Check.SYNTAX, "");
-        c.run("{".repeat(4) + " ".repeat(113) + "}}}", Check.SYNTAX, "").used(0, 2);
+        for (int turn = 0; turn < 5; turn++) {
+            c.run("{" + " 1".repeat(59), Check.SYNTAX, "").run("{{" + " 1".repeat(58), Check.SYNTAX, "");
+        }
+        c.ok("{2 3 4} aload pop", "2 3 4").ok("clear", "");
+        c.run("{".repeat(4) + " ".repeat(113) + "}}}", Check.SYNTAX, "").used(0, 5);
         c.ok("{".repeat(4) + " ".repeat(112) + "}".repeat(4), "{1}");
     }
 
