@@ -10,6 +10,7 @@ public final class AnswerEdgesTest {
         usedEmptyAndFull();
         usedOthers();
         askingChangesNothing();
+        lastCalls();
         Check.finish();
     }
 
@@ -214,5 +215,20 @@ public final class AnswerEdgesTest {
             c.steps(6).fault(0).used(0, 1).used(5, 1);
         }
         c.ok("", "/a 5 1.5 [1]").steps(0);
+    }
+
+    /** "An object is used for at most 512 calls after it has been made": the last ones answer as the first. */
+    private static void lastCalls() {
+        PageScribe scribe = new PageScribe(3, 2);
+        for (int turn = 1; turn <= 127; turn++) {
+            Check.same("write of turn " + turn, true, scribe.write(Check.packed("save {5}")));
+            Check.same("write of turn " + turn, true, scribe.write(Check.packed("exec pop")));
+            Check.same("write of turn " + turn, true, scribe.write(Check.packed(" restore")));
+            Check.same("run of turn " + turn, 0, scribe.run(6));
+        }
+        Check.same("509th call", true, scribe.write(Check.packed("save")));
+        Check.same("510th call", 0, scribe.run(1));
+        Check.same("511th call", 7, scribe.kind(0));
+        Check.same("512th call", 128, scribe.number(0));
     }
 }
