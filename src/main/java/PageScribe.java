@@ -22,7 +22,7 @@ public final class PageScribe {
     private static final int DICTS = 7, FIRST_ROOM = 20, MOST_ROOM = 10;
     private static final int ENTRIES = FIRST_ROOM + (DICTS - 1) * MOST_ROOM;
     private static final int MOST_POINTS = 30, MOST_COLUMNS = 24, MOST_ROWS = 16;
-    private static final double MOST_REAL = 1e12, MOST_PLACE = 1e6;
+    private static final long MOST_REAL = 1000000000000L, MOST_PLACE = 1000000L;
 
     /** The fuel ends each loop of the language long before this; it is here so that the bound can be seen. */
     private static final int MOST_TURNS = 1000000;
@@ -1552,7 +1552,7 @@ public final class PageScribe {
             return 0;
         }
 
-        int doValue(int kind, int number, double real) {
+        private int doValue(int kind, int number, double real) {
             int end = countStep();
             if (end != 0) {
                 return end;
